@@ -191,6 +191,9 @@ public final class LookingAheadTest {
         Check.same("none, and one more", 1, bank.needs(0, 5));
         Check.passMany(bank, 3);
         Check.same("600 of 2", 599, bank.needs(0, 600));
+        bank.begin(1, 0, 1, 0, 5, 0);
+        Check.same("1 on the clock, but a delay", 0, bank.needs(1, 5));
+        Check.same("and a second behind it", 1, bank.needs(1, 6));
     }
 
     private static void needsRefuses() {
