@@ -55,8 +55,8 @@ public final class MinuteBank {
             throw new IllegalStateException("there are 8 players");
         }
         int number = now.playerCount;
-        now.players[number].coins = coins;
         now.playerCount++;
+        now.playerAt(number).coins = coins;
         return number;
     }
 
@@ -138,8 +138,8 @@ public final class MinuteBank {
             throw new IllegalStateException("there are 20 loans");
         }
         int number = now.loanCount;
-        now.loans[number].open(player, n, rate, now.time + seconds);
         now.loanCount++;
+        now.loanAt(number).open(player, n, rate, now.time + seconds);
         now.handOut(borrower, n);
         return number;
     }
@@ -197,10 +197,10 @@ public final class MinuteBank {
             throw new IllegalStateException("there are 16 games");
         }
         int number = now.gameCount;
-        Game row = now.games[number];
+        now.gameCount++;
+        Game row = now.gameAt(number);
         row.sitDown(white, black, seconds);
         row.start(number, increment, delay, stake);
-        now.gameCount++;
         first.coins -= stake;
         second.coins -= stake;
         return number;

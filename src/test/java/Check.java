@@ -1,7 +1,22 @@
+import java.util.List;
+
 /** Compares answers with those that are due, and tells at the end whether all were right. */
 final class Check {
     interface Call {
         void make();
+    }
+
+    /** Makes a bank anew: each question gets one of its own, so that none is asked beyond its 512th call. */
+    interface Start {
+        MinuteBank make();
+    }
+
+    interface Ask {
+        long on(MinuteBank bank);
+    }
+
+    interface OfNumber {
+        long on(MinuteBank bank, int number);
     }
 
     static final Class<?> INDEX = IndexOutOfBoundsException.class;
@@ -31,15 +46,34 @@ final class Check {
         }
     }
 
-    /** The call throws just this exception, and leaves the bank as it was. */
-    static void refuses(String what, Class<?> kind, MinuteBank bank, Call call) {
-        long before = bank.digest();
-        Class<?> thrown = kindThrownBy(call);
+    /** From this start the call throws just this exception, and all is as it is without it. */
+    static void refuses(String what, Class<?> kind, Start start, Ask call) {
+        MinuteBank bank = start.make();
+        Class<?> thrown = kindThrownBy(() -> call.on(bank));
         if (thrown != kind) {
             tell(what + ": threw " + thrown + ", due is " + kind);
         }
-        if (bank.digest() != before) {
-            tell(what + ": was refused, but changed the bank");
+        sameLists(what + ", was refused", Everything.of(start.make()), Everything.of(bank));
+    }
+
+    /** From this start the call is taken, and answers so. */
+    static void answers(String what, long due, Start start, Ask call) {
+        MinuteBank bank = start.make();
+        long[] got = new long[1];
+        Class<?> thrown = kindThrownBy(() -> got[0] = call.on(bank));
+        if (thrown != null) {
+            tell(what + ": threw " + thrown + ", due is " + due);
+        } else {
+            same(what, due, got[0]);
+        }
+    }
+
+    private static void sameLists(String what, List<String> due, List<String> got) {
+        same(what + ", how many answers", due.size(), got.size());
+        for (int i = 0; i < Math.min(due.size(), got.size()); i++) {
+            if (!due.get(i).equals(got.get(i))) {
+                tell(what + ": " + got.get(i) + ", due is " + due.get(i));
+            }
         }
     }
 
@@ -90,6 +124,26 @@ final class Check {
         int game = bank.begin(player, other, 1, 0, 0, 0);
         bank.put(game, 0, n);
         bank.end(game, -1);
+    }
+
+    /** Refused so are the numbers next to least and most, on the outer sides, and the farthest ones. */
+    static void refusesOutside(String what, Class<?> kind, int least, int most, Start start, OfNumber call) {
+        int[] outside = {least - 1, most + 1, Integer.MIN_VALUE, Integer.MAX_VALUE};
+        for (int n : outside) {
+            refuses(what + " " + n, kind, start, bank -> call.on(bank, n));
+        }
+    }
+
+    /** A bank of such players, all of whose reserve but this has been bought by player 0. */
+    static MinuteBank bankWithReserve(int reserve, int players) {
+        MinuteBank bank = bankWith(players, 1000000);
+        int left = 100000 - reserve;
+        while (left > 0) {
+            int n = Math.min(left, 10000);
+            bank.buy(0, n);
+            left -= n;
+        }
+        return bank;
     }
 
     /** Lets more seconds go by than one call may. */

@@ -3,16 +3,12 @@ public final class LookingAheadTest {
     public static void main(String[] args) {
         foreseeNothing();
         foreseeGames();
-        foreseeAtTheEdge();
         foreseeLoans();
         foreseeInterestAndArbiter();
-        foreseeRefuses();
         foreseeIsMadeAnew();
         leader();
-        leaderRefuses();
         needs();
         needsWithADelay();
-        needsRefuses();
         mean();
         digest();
         Check.finish();
@@ -46,16 +42,6 @@ public final class LookingAheadTest {
         foresees("the rest", bank, 200, 0, 310, 1, 0);
         bank.pass(200);
         foresees("what has ended does not end", bank, 2400, -1, -1, 0, 0);
-    }
-
-    private static void foreseeAtTheEdge() {
-        MinuteBank bank = Check.bankWith(2, 100);
-        Check.passMany(bank, 17600);
-        bank.begin(0, 1, 2400, 0, 0, 0);
-        foresees("the last second", bank, 2400, 0, 20000, 1, 0);
-        bank.pass(1);
-        Check.refuses("beyond it", Check.STATE, bank, () -> bank.foresee(2400, 0));
-        foresees("just within", bank, 2399, 0, 20000, 1, 0);
     }
 
     private static void foreseeLoans() {
@@ -94,19 +80,6 @@ public final class LookingAheadTest {
         // at 30 side 1 gives back 40; with 5 more in the pocket the loan is paid
         foresees("the arbiter gives back", bank, 41, -1, -1, 0, 0);
         foresees("till it falls at last", bank, 42, 0, 71, 1, 0);
-    }
-
-    private static void foreseeRefuses() {
-        MinuteBank bank = Check.bankWith(2, 100);
-        Check.refuses("0", Check.ARGUMENT, bank, () -> bank.foresee(0, 0));
-        Check.refuses("2401", Check.ARGUMENT, bank, () -> bank.foresee(2401, 9));
-        Check.refuses("least int", Check.ARGUMENT, bank, () -> bank.foresee(Integer.MIN_VALUE, 0));
-        Check.refuses("what -1", Check.INDEX, bank, () -> bank.foresee(1, -1));
-        Check.refuses("what 4", Check.INDEX, bank, () -> bank.foresee(1, 4));
-        Check.passMany(bank, 20000);
-        Check.refuses("beyond the end", Check.STATE, bank, () -> bank.foresee(1, 0));
-        Check.refuses("what 4 at the end", Check.INDEX, bank, () -> bank.foresee(1, 4));
-        Check.refuses("0 at the end", Check.ARGUMENT, bank, () -> bank.foresee(0, 0));
     }
 
     private static void foreseeIsMadeAnew() {
@@ -150,13 +123,6 @@ public final class LookingAheadTest {
         }
     }
 
-    private static void leaderRefuses() {
-        MinuteBank bank = Check.bankWith(2, 5);
-        Check.refuses("place -1", Check.INDEX, bank, () -> bank.leader(-1));
-        Check.refuses("place 2", Check.INDEX, bank, () -> bank.leader(2));
-        Check.refuses("place 8", Check.INDEX, bank, () -> bank.leader(8));
-    }
-
     private static void needs() {
         MinuteBank bank = Check.bankWith(3, 5);
         Check.same("no games", 0, bank.needs(0, 600));
@@ -196,16 +162,6 @@ public final class LookingAheadTest {
         Check.same("and a second behind it", 1, bank.needs(1, 6));
     }
 
-    private static void needsRefuses() {
-        MinuteBank bank = Check.bankWith(2, 5);
-        Check.refuses("player 2", Check.INDEX, bank, () -> bank.needs(2, 0));
-        Check.refuses("player -1", Check.INDEX, bank, () -> bank.needs(-1, 1));
-        Check.refuses("seconds 0", Check.ARGUMENT, bank, () -> bank.needs(0, 0));
-        Check.refuses("seconds 601", Check.ARGUMENT, bank, () -> bank.needs(0, 601));
-        Check.passMany(bank, 20000);
-        Check.same("at the end of time", 0, bank.needs(0, 600));
-    }
-
     private static void mean() {
         MinuteBank bank = Check.bankWith(2, 5);
         Check.sameMean("none", 0.0, bank.mean());
@@ -241,25 +197,6 @@ public final class LookingAheadTest {
     }
 
     private static long digestOf(MinuteBank bank) {
-        long d = 509;
-        for (int what = 0; what <= 10; what++) {
-            d = d * 31 + bank.count(what);
-        }
-        for (int p = 0; p < bank.count(1); p++) {
-            for (int what = 0; what <= 7; what++) {
-                d = d * 31 + bank.player(p, what);
-            }
-        }
-        for (int l = 0; l < bank.count(4); l++) {
-            for (int what = 0; what <= 4; what++) {
-                d = d * 31 + bank.loan(l, what);
-            }
-        }
-        for (int g = 0; g < bank.count(2); g++) {
-            for (int what = 0; what <= 10; what++) {
-                d = d * 31 + bank.game(g, what);
-            }
-        }
-        return d;
+        return Model.wrapped(LookingAheadEdgesTest.told(bank));
     }
 }

@@ -1,9 +1,6 @@
 /** Promises 15 and 16: pass, count; and what a second does: clocks, interest, due, arbiter. */
 public final class SecondsTest {
     public static void main(String[] args) {
-        passRefuses();
-        passUpToTheLastSecond();
-        countRefuses();
         clocksAndDelay();
         flagsFall();
         interest();
@@ -20,32 +17,6 @@ public final class SecondsTest {
         arbiterAfterTheDue();
         arbiterOnlyWhereAGameRuns();
         Check.finish();
-    }
-
-    private static void passRefuses() {
-        MinuteBank bank = new MinuteBank();
-        Check.refuses("0", Check.ARGUMENT, bank, () -> bank.pass(0));
-        Check.refuses("-1", Check.ARGUMENT, bank, () -> bank.pass(-1));
-        Check.refuses("1201", Check.ARGUMENT, bank, () -> bank.pass(1201));
-        Check.refuses("greatest int", Check.ARGUMENT, bank, () -> bank.pass(Integer.MAX_VALUE));
-    }
-
-    private static void passUpToTheLastSecond() {
-        MinuteBank bank = new MinuteBank();
-        bank.pass(1);
-        Check.same("one", 1, bank.count(0));
-        Check.passMany(bank, 18900);
-        Check.refuses("one too many", Check.STATE, bank, () -> bank.pass(1100));
-        Check.refuses("too many at once", Check.ARGUMENT, bank, () -> bank.pass(1201));
-        bank.pass(1099);
-        Check.same("the last second", 20000, bank.count(0));
-        Check.refuses("one more", Check.STATE, bank, () -> bank.pass(1));
-    }
-
-    private static void countRefuses() {
-        MinuteBank bank = new MinuteBank();
-        Check.refuses("-1", Check.INDEX, bank, () -> bank.count(-1));
-        Check.refuses("11", Check.INDEX, bank, () -> bank.count(11));
     }
 
     private static void clocksAndDelay() {
